@@ -263,7 +263,8 @@ public final class SafeMemory {
     private int pointToLocal(int register, int index) {
         int frame = frames.count - 1;
         int address = frames.localAddress[index];
-        registers.makePointer(register, address, frames.localWords[index], frames.lock[frame], frames.key[frame]);
+        int n = frames.localWords[index];
+        registers.makePointer(register, address, n, frames.lock[frame], frames.key[frame]);
         return address;
     }
 

@@ -64,9 +64,9 @@ public final class CountTest {
         m.store(0, 0, 0);
         m.store(0, 3, 1);
         m.store(1, 1, 2);
-        m.store(2, 2, 1);
+        m.store(2, 0, 1);
         m.set(3, 5);
-        m.store(2, 0, 3);
+        m.store(2, 2, 3);
         Check.due("pointers", 4, m.count(8));
         Check.due("alive", 4, m.count(9));
         m.free(1);

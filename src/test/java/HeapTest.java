@@ -158,6 +158,10 @@ public final class HeapTest {
         m.local(2, 2);
         m.add(2, -94);
         Check.tested("free of a block by a local's pointer", m, Check.OUTSIDE, () -> m.free(2));
+        m.free(1);
+        m.add(0, 4);
+        Check.tested("free where a block was", m, Check.OUTSIDE, () -> m.free(0));
+        m.add(0, -4);
         Check.due("free at the first address", 4, m.free(0));
     }
 

@@ -160,7 +160,9 @@ public final class StackTest {
         m.enter();
         Check.refused("a local of an older frame", m, Check.OUTSIDE, () -> m.point(1, 0));
         Check.refused("a local below the first", m, Check.OUTSIDE, () -> m.point(1, -1));
+        m.local(0, 1);
         m.leave();
+        Check.refused("a local of the frame left", m, Check.OUTSIDE, () -> m.point(1, 2));
         m.leave();
         m.enter();
         Check.refused("a local of a closed frame", m, Check.OUTSIDE, () -> m.point(1, 0));
