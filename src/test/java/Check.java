@@ -30,7 +30,7 @@ final class Check {
     /** The call must throw just this kind and leave all counts as they were. */
     static void refused(String what, SafeMemory memory, Class<? extends RuntimeException> kind, Call call) {
         int[] before = askCounts(memory);
-        expectThrow(what, kind, call);
+        throwsKind(what, kind, call);
         if (!Arrays.equals(before, askCounts(memory))) {
             fail(what + " threw, and changed a count");
         }
@@ -41,13 +41,13 @@ final class Check {
         int[] due = askCounts(memory);
         int place = kind == UNTAGGED ? 5 : kind == STATE ? 6 : 7;
         due[place]++;
-        expectThrow(what, kind, call);
+        throwsKind(what, kind, call);
         if (!Arrays.equals(due, askCounts(memory))) {
             fail(what + " threw, and did not change the count of its tests alone");
         }
     }
 
-    private static void expectThrow(String what, Class<? extends RuntimeException> kind, Call call) {
+    static void throwsKind(String what, Class<? extends RuntimeException> kind, Call call) {
         try {
             fail(what + " answered " + call.make() + ", due is a " + kind.getSimpleName());
         } catch (RuntimeException thrown) {
