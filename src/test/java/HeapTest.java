@@ -255,6 +255,12 @@ public final class HeapTest {
         Check.tested("free where a block was", m, Check.OUTSIDE, () -> m.free(0));
         m.alloc(1, 4);
         Check.tested("free where a block is again", m, Check.OUTSIDE, () -> m.free(0));
+        SafeMemory first = new SafeMemory();
+        first.alloc(0, 4);
+        first.alloc(1, 4);
+        first.free(1);
+        first.add(0, 4);
+        Check.tested("free where the second block was by the first", first, Check.OUTSIDE, () -> first.free(0));
     }
 
     /** Promise 5: "of a block that is in use, with whose key it was made.": a local is none. */

@@ -31,6 +31,7 @@ public final class TermsTest {
         aBlocksWordsBeginClear();
         aFramesWordsBeginClear();
         wordsPassClearBetweenBlocksAndFrames();
+        wordsInUseStayAsTheyAre();
         anAccessGoesToNumberPlusOffset();
         anAccessWithoutTags();
         anAccessToWhatIsOver();
@@ -210,7 +211,10 @@ public final class TermsTest {
         Check.refused("a lock for a frame", m, Check.STATE, m::enter);
     }
 
-    /** "A new LOCK is the one that was let go last and is not in use, or if there is none the least that was never in use." */
+    /**
+     * "A new LOCK is the one that was let go last and is not in use, or if there is none the least that was never in use."
+     * No call tells which lock it is; but none may be lost, and none given while it is in use.
+     */
     private static void locksLetGoAreNewAgain() {
         SafeMemory m = Scenes.noLock();
         for (int r : new int[] {5, 0, 7, 2}) {
@@ -471,6 +475,31 @@ public final class TermsTest {
         m.leave();
         m.alloc(5, 24);
         wordsAreClear("a block after locals", m, 5, 24);
+    }
+
+    /** "A word that comes into use with a block or a frame is 0": those in use before keep what they hold. */
+    private static void wordsInUseStayAsTheyAre() {
+        SafeMemory m = new SafeMemory();
+        m.alloc(0, 24);
+        m.alloc(2, 24);
+        m.enter();
+        m.local(3, 8);
+        int[] sizes = {24, 0, 24, 8};
+        for (int pointer : new int[] {0, 2, 3}) {
+            storeNumbersAndPointers(m, pointer, sizes[pointer]);
+        }
+        m.local(4, 8);
+        m.alloc(5, 24);
+        m.enter();
+        m.local(4, 1);
+        m.alloc(5, 1);
+        for (int pointer : new int[] {0, 2, 3}) {
+            for (int offset = 0; offset < sizes[pointer]; offset++) {
+                boolean tagged = offset % 2 == 0;
+                Check.due("its number", tagged ? m.register(pointer, 0) : 8, m.load(7, pointer, offset));
+                Check.due("its tags", tagged ? sizes[pointer] : 0, m.register(7, 3));
+            }
+        }
     }
 
     private static void storeNumbersAndPointers(SafeMemory m, int pointer, int n) {
